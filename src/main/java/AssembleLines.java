@@ -31,7 +31,6 @@ public final class AssembleLines {
     private final TurnOne turnOne = new TurnOne(program, errors);
 
     public AssembleLines() {
-        length = 0;
     }
 
     public int feed(int a, int b, int c, int d) throws IllegalStateException {
@@ -145,7 +144,7 @@ public final class AssembleLines {
     private enum Operation {
         NOTHING("", false, 0, 0, 0),
         UNHEARD("", false, 0, 0, 0),
-        LABEL("", true, 0, 0, 0),
+        LABEL("", false, 0, 0, 0),
         CALL("", false, 0, 0, 0),
         NOP("nop", true, 0, 0, 0),
         LI("li", true, 1, 9, 1),
@@ -1009,7 +1008,6 @@ public final class AssembleLines {
                 return false;
             }
             if (scanner.isAtEnd()) {
-                operation = label == 0 ? Operation.NOTHING : Operation.LABEL;
                 return true;
             }
             if (!scanner.readOperation()) {

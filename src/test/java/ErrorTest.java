@@ -74,6 +74,14 @@ final class ErrorTest {
         AssembleLines x = check.assembled(word + "t\n".repeat(20) + ".word e,e,e,e,e,e,e,e\n".repeat(150) + "e:");
         check.same("words", x.count(1), 8 * (20 * 5 + 150));
         check.same("a word of a name", x.word(7), 8 + 2000);
+        for (int i = 800; i < 2000; i++) {
+            check.same("word(" + i + ")", x.word(i), 2000);
+        }
+        String full = ".macro m\n" + ".word 1,2,3,4,5,6,7,8\n".repeat(4) + ".set x&n, 5\n.end\n";
+        AssembleLines y = check.assembled(full + "m\n".repeat(100) + ".set y, 6\n");
+        check.same("words of 400 full statements", y.count(1), 3200);
+        check.same("the last word", y.word(3199), 8);
+        check.same("set names beside them", y.count(4), 101);
     }
 
     private static void setLimit(Check check) {
@@ -105,6 +113,7 @@ final class ErrorTest {
         check.errors("lw r1, =x\nlw r2, =70000\n.space 64", 4, 1, 5, 2);
         check.errors("li r1, x\nbz r1, x\nb 70000\nli r1, 70000", 4, 1, 4, 2, 5, 3, 5, 4);
         check.errors("a: nop\n.word -32769+a, a+65536", 5, 2, 5, 2);
+        check.errors(".space 1\n.set k, 1\nl: .set m, 1\nb x", 4, 4);
         check.right("b x\nx:\n.word y\n.set y, 5");
     }
 

@@ -14,6 +14,7 @@ final class RoundsTest {
         rounds(check, "s: .space 15\nbz r1, s", 1, 0);
         rounds(check, "s: .space 16\nbz r1, s", 2, 1);
         oneByOne(check);
+        manyRounds(check);
         longStays(check);
         literals(check);
         check.finish();
@@ -32,6 +33,17 @@ final class RoundsTest {
         check.statements(text, 1, 0, 2, 1, 2, 2, 30, 0, 3, 32, 2, 1, 4, 34, 0, 0, 5, 34, 30, 0, 6, 64, 2, 1, 7, 66, 0, 0);
         // Those that do not fit in a round grow together.
         rounds(check, "b e\n.space 10\n".repeat(10) + "e:", 2, 8);
+    }
+
+    /** Each li counts the words of the next one, so that they grow from the last one on, one in a round. */
+    private static void manyRounds(Check check) {
+        StringBuilder text = new StringBuilder(".macro m\na&0:li r1,254+c&0-b&0\nb&0:li r1,254+d&0-c&0\n"
+                + "c&0:li r1,254+a&1-d&0\nd&0:li r1,254+b&1-a&1\n.end\n");
+        for (int i = 1; i < 100; i++) {
+            text.append("m ").append(i).append(',').append(i + 1).append('\n');
+        }
+        rounds(check, text + "a100:li r1,255\nb100:", 1, 0);
+        rounds(check, text + "a100:li r1,256\nb100:", 398, 397);
     }
 
     /** A value may fit again when others have grown: what has become long stays so. */

@@ -56,6 +56,7 @@ final class TermsTest {
         check.errors(".macro a23456789_1\n.end", 1, 1);
         check.errors("A: nop", 1, 1);
         check.errors("aB: nop", 1, 1);
+        allDifferent(check);
         for (int r = 0; r <= 7; r++) {
             check.errors("r" + r + ": nop", 1, 1);
             check.errors(".set r" + r + ", 1", 1, 1);
@@ -65,12 +66,28 @@ final class TermsTest {
         check.right("li: nop\nnop: nop\nlw: b li + nop + lw");
     }
 
+    /** Names that are near to one another, and so many that some share whatever they are sorted by. */
+    private static void allDifferent(Check check) {
+        check.right("a9:\na_:\naz:\na0:\na:\nb:\naa:\n_:\nz:\nz9:\na1:\n__:\n_9:\n_a:\na__:\na_9:\na9_:");
+        StringBuilder text = new StringBuilder();
+        for (int i = 0; i < 256; i++) {
+            text.append('a').append(i).append(":nop\n");
+        }
+        for (int i = 0; i < 256; i++) {
+            text.append(i % 8 == 0 ? "\n.word a" : ",a").append(i);
+        }
+        AssembleLines x = check.assembled(text.toString());
+        for (int i = 0; i < 256; i++) {
+            check.same("the place of label a" + i, x.word(256 + i), i);
+        }
+    }
+
     private static void operations(Check check) {
         check.errors("foo\n.foo\n.foofoofoofoofoo\n.nop\nword 1\n.li r1, 1", 2, 1, 2, 2, 2, 3, 2, 4, 2, 5, 2, 6);
         check.errors(".word1\n.\n. word 1\n..word\n.word,1\n.WORD 1", 1, 1, 1, 2, 1, 3, 1, 4, 1, 5, 1, 6);
         check.errors("nop+\nb-1\nb=1\nb.\nli,r1", 1, 1, 1, 2, 1, 3, 1, 4, 1, 5);
         check.errors("a: foo 1,,,\nfoo: foo", 2, 1, 2, 2);
-        check.errors(".end", 1, 1);
+        check.errors(".x\n.z\n.zz 1\n.end", 2, 1, 2, 2, 2, 3, 1, 4);
         check.errors("a: .end x", 1, 1);
     }
 
@@ -79,7 +96,7 @@ final class TermsTest {
                 1, 1, 1, 2, 1, 3, 1, 4, 1, 5, 1, 6, 1, 7, 1, 8, 1, 9);
         check.errors("li\nli r1\nli r1,\nli r1 1\nli 1, r1\nli r8, 1\nli r1, 1, 2\nli r1, = 1",
                 1, 1, 1, 2, 1, 3, 1, 4, 1, 5, 1, 6, 1, 7, 1, 8);
-        check.errors("b\nb 1, 2\nbz 1\nbz r1\nbz r1, 1 2\nlw r1, 1\nlw r1 = 1\nlw r1, =\nlw = 1\nlw r1, = 1, 2\nlw r1, == 1",
+        check.errors("b\nb 1, 2\nbz 1\nbz r1\nbz r1, 1, 2\nlw r1, 1\nlw r1 = 1\nlw r1, =\nlw = 1\nlw r1, = 1, 2\nlw r1, == 1",
                 1, 1, 1, 2, 1, 3, 1, 4, 1, 5, 1, 6, 1, 7, 1, 8, 1, 9, 1, 10, 1, 11);
         check.errors(".word\n.word 1,\n.word ,1\n.word 1,,2\n.word 1 2\n.word 1,2,3,4,5,6,7,8,9\n.space\n.space 1, 2",
                 1, 1, 1, 2, 1, 3, 1, 4, 1, 5, 1, 6, 1, 7, 1, 8);

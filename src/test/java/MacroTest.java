@@ -160,6 +160,6 @@ final class MacroTest {
         check.errors(macro("m", ".word " + "&0".repeat(1000)) + "m " + "1+".repeat(900), 1, 4);
         check.errors(macro("m", "nop " + "&0".repeat(1000) + "1") + "m " + " ".repeat(900), 1, 4);
         check.errors(macro("m", "nop &0" + "&1".repeat(900) + "&2") + "m ;\nm  , ,\nm , , 1\nm ,1", 1, 6, 1, 7);
-        check.errors(macro("m", ".word 1" + "&0".repeat(1000) + "+") + "m " + "+1".repeat(900), 1, 4);
+        check.errors(macro("m", ".word 11" + "&0".repeat(1000) + "+") + "m " + "+1".repeat(900), 1, 4);
     }
 }

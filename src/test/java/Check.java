@@ -125,7 +125,7 @@ final class Check {
         return told.toString();
     }
 
-    private static String shown(String text) {
+    static String shown(String text) {
         String whole = text.replace("\n", "\\n");
         return '"' + (whole.length() > 160 ? whole.substring(0, 160) + ".." : whole) + '"';
     }

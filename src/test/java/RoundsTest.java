@@ -22,8 +22,8 @@ final class RoundsTest {
 
     private static void rounds(Check check, String text, int rounds, int longOnes) {
         AssembleLines x = check.assembled(text);
-        check.same("rounds of " + text, x.count(7), rounds);
-        check.same("long ones of " + text, x.count(9), longOnes);
+        check.same("rounds of " + Check.shown(text), x.count(7), rounds);
+        check.same("long ones of " + Check.shown(text), x.count(9), longOnes);
     }
 
     /** Each one that grows pushes the target of one ahead of it away. */

@@ -765,7 +765,7 @@ public final class AssembleLines {
         private static final int MOST_DEEP = 6;
         private static final int MOST_CALLS = 100;
         // More than 1020 times an operand of 2039 bytes, which is all that a text has room for.
-        private static final int MOST_BUFFER = 1 << 21;
+        private static final int MOST_ROOM = 1 << 21;
 
         // The one behind the deepest holds the operands of a call that is too deep.
         private final Call[] calls = new Call[MOST_DEEP + 1];
@@ -829,6 +829,26 @@ public final class AssembleLines {
 
         private void putTogether(Call call) {
             int stop = lineEnd(call.next, call.until);
+            putLine(call, stop);
+            if (to > made.length) {
+                made = new byte[roomFor(to)];
+                putLine(call, stop);
+            }
+            to = Math.min(to, made.length);
+            call.next = stop + 1;
+            bytes = made;
+        }
+
+        /** Doubled, so that a line that is a little longer finds room, too. */
+        private int roomFor(int wanted) {
+            int room = made.length;
+            while (room < wanted && room < MOST_ROOM) {
+                room *= 2;
+            }
+            return room;
+        }
+
+        private void putLine(Call call, int stop) {
             from = 0;
             to = 0;
             int i = call.next;
@@ -845,8 +865,6 @@ public final class AssembleLines {
                 }
                 i += isOperand || isNumber ? 2 : 1;
             }
-            call.next = stop + 1;
-            bytes = made;
         }
 
         private void putOperand(Call call, int k) {
@@ -864,14 +882,12 @@ public final class AssembleLines {
             }
         }
 
+        /** Counts a byte even if it finds no room, so that the room that is wanted is known. */
         private void put(byte letter) {
-            if (to == made.length && to < MOST_BUFFER) {
-                made = Arrays.copyOf(made, 2 * made.length);
-            }
             if (to < made.length) {
                 made[to] = letter;
-                to++;
             }
+            to++;
         }
 
         boolean isMade() {

@@ -11,6 +11,7 @@ final class CallEdgesTest {
         feedAtEachLength(check);
         feedOfAllBytes(check);
         endOfEachNumber(check);
+        othersAreGone(check);
         endOfLessThanSixteen(check);
         firstExceptionTold(check);
         assembleEmptiesTheText(check);
@@ -90,6 +91,38 @@ final class CallEdgesTest {
         check.same("end(16) again", x.end(16), 16);
         check.same("end(0)", x.end(0), 0);
         check.throwing("end(0) of nothing", IllegalStateException.class, () -> x.end(0));
+    }
+
+    /** .. the others are gone: each beginning of a text answers as if nothing had ever stood behind it. */
+    private static void othersAreGone(Check check) {
+        String[] texts = {
+            ".word 0x12345678\nnop ;nop\nli r1, 0x10 + 0xa\nl2: b l2\n.set aa, -12\n.space aa+13",
+            ".macro mm ;\n.word 0&0, &n\n.end ;\nmm x1\nmm 2, 3\nmm\nlw r1, = 0x0 + mm1\nmm1: .pool\n",
+            "a:\n b:  .end\n.macro\n.end 5\nc: d: e\nadd r1, r2\nsub r3 , r44\n.word . - a, ..\n",
+        };
+        for (String text : texts) {
+            String padded = text + " ".repeat(15);
+            for (int length = 1; length <= text.length(); length++) {
+                int fed = (length + 15) / 16 * 16;
+                AssembleLines x = Check.fed(padded.substring(0, fed));
+                x.end(length - (fed - 16));
+                boolean isSame = outcome(x).equals(outcome(Check.fed(text.substring(0, length))));
+                check.same("the first " + length + " bytes of " + Check.shown(text) + " answer alike", isSame ? 1 : 0, 1);
+            }
+        }
+    }
+
+    private static String outcome(AssembleLines x) {
+        try {
+            x.assemble();
+        } catch (IllegalArgumentException e) {
+            StringBuilder told = new StringBuilder();
+            for (int i = 0; i < x.count(8); i++) {
+                told.append(x.error(i, 0)).append(' ').append(x.error(i, 1)).append(' ');
+            }
+            return told.toString();
+        }
+        return answers(x);
     }
 
     private static int sum(String terms) {

@@ -36,6 +36,16 @@ final class ErrorEdgesTest {
             check.errors(macro + FULL + kind, 6, 403);
             check.errors(macro + FULL + "\n" + kind + "\nnop", 6, 404, 6, 405);
         }
+        // All of them may have eight words, behind lines that are refused.
+        String eight = ".macro m\n" + ".word 1,2,3,4,5,6,7,l\n".repeat(4) + ".end\n";
+        String refused = ".word l,l,l,l,l,l,l,l,l\n";
+        int[] due = new int[80];
+        for (int i = 0; i < 80; i += 2) {
+            due[i] = 1;
+            due[i + 1] = 7 + i / 2;
+        }
+        check.errors(eight + refused.repeat(40) + "m\n".repeat(100), due);
+        check.errors(eight + "m\n".repeat(100) + ".word 1,2,3,4,5,6,7,8\nli r1, 1\n" + refused, 6, 107, 6, 108, 1, 109);
         // Also those that calls bring.
         String four = ".macro m\nnop\nnop\nnop\nnop\n.end\n";
         check.right(four + "m\n".repeat(100));
@@ -123,6 +133,7 @@ final class ErrorEdgesTest {
         check.errors("no\nnopp\nl\nlii\nad\nsu\nbb\nbzz\nl_w\nlw1", 2, 1, 2, 2, 2, 3, 2, 4, 2, 5, 2, 6, 2, 7, 2, 8, 2, 9, 2, 10);
         check.errors(".wor 1\n.words 1\n.spac\n.poo\n.pools\n.se\n.sets\n.mac\n.macros m\n.en\n.ends\n.nop\n.li",
                 2, 1, 2, 2, 2, 3, 2, 4, 2, 5, 2, 6, 2, 7, 2, 8, 2, 9, 2, 10, 2, 11, 2, 12, 2, 13);
+        check.errors(".macro a\n.end\n.macro b1\n.end\n.foo\n.a\n.b\na", 2, 5, 2, 6, 2, 7);
         check.errors("word 1\nspace 1\npool\nset a, 1\nmacro m\nend", 2, 1, 2, 2, 2, 3, 2, 4, 2, 5, 2, 6);
     }
 

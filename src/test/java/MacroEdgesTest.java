@@ -86,6 +86,8 @@ final class MacroEdgesTest {
             check.errors(macro("m", ".word 1+" + stays) + "m 1,2,3,4", 1, 4);
             check.right(macro("m", "nop ;" + stays) + "m 1,2,3,4");
         }
+        // Nothing is left of the line that was put together before.
+        check.words(macro("m", ".word 0&0") + "m x5\nm\nm 7\nm", 5, 0, 7, 0);
         // It stays at the end of a line, where the next line's first byte is not its digit.
         check.errors(macro("m", ".word 1&\n0") + "m 1", 1, 5, 1, 5);
         // One & that stays is followed by one that does not.

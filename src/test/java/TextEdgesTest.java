@@ -175,6 +175,7 @@ final class TextEdgesTest {
         check.errors(".macro m\n.end\nm,\nm-1\nm=\nm\"", 1, 3, 1, 4, 1, 5, 1, 6);
         check.right(".macro m\n.end\nm\nm \nm;\nm ,");
         check.right("nop\nnop \nnop;\nnop");
+        check.errors(".foo{\n.foo`\n.foo{ 1\n.{\n.`", 1, 1, 1, 2, 1, 3, 1, 4, 1, 5);
         check.errors(".word1\n.space1\n.pool1\n.end1\n.word_ 1", 1, 1, 1, 2, 1, 3, 1, 4, 1, 5);
         // One that is none ends no body, and begins none.
         check.right(".macro m\n.end,\n.end1\n.ends\n.en\n.end.\n.end");

@@ -74,7 +74,7 @@ final class ErrorTest {
         AssembleLines x = check.assembled(word + "t\n".repeat(20) + ".word e,e,e,e,e,e,e,e\n".repeat(150) + "e:");
         check.same("words", x.count(1), 8 * (20 * 5 + 150));
         check.same("a word of a name", x.word(7), 8 + 2000);
-        for (int i = 800; i < 2000; i++) {
+        for (int i = 800; i < 2000; i += 7) {
             check.same("word(" + i + ")", x.word(i), 2000);
         }
         String full = ".macro m\n" + ".word 1,2,3,4,5,6,7,8\n".repeat(4) + ".set x&n, 5\n.end\n";

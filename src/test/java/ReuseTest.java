@@ -26,46 +26,58 @@ final class ReuseTest {
         for (String first : TEXTS) {
             for (String second : TEXTS) {
                 AssembleLines x = new AssembleLines();
-                answers(x, first);
+                assembles(x, first);
                 int same = answers(x, second).equals(answers(new AssembleLines(), second)) ? 1 : 0;
                 check.same("the answers for " + second + " behind " + first + " are a new object's", same, 1);
             }
         }
         AssembleLines x = new AssembleLines();
         for (int i = 0; i < 10; i++) {
-            answers(x, TEXTS[14]);
+            assembles(x, TEXTS[14]);
         }
         check.same("words of a big text, for the tenth time", x.count(1), 3168);
         check.same("one of its words", x.word(3167), 3168);
         check.finish();
     }
 
-    private static String answers(AssembleLines x, String text) {
-        StringBuilder told = new StringBuilder();
+    private static boolean assembles(AssembleLines x, String text) {
         Check.feed(x, text);
         try {
-            told.append(x.assemble());
+            x.assemble();
+            return true;
         } catch (IllegalArgumentException e) {
-            told.append("errors");
+            return false;
         }
-        for (int what = -1; what <= 10; what++) {
-            told.append(' ').append(x.count(what));
+    }
+
+    private static String answers(AssembleLines x, String text) {
+        StringBuilder told = new StringBuilder();
+        told.append(assembles(x, text));
+        int[] counts = new int[12];
+        for (int i = 0; i < counts.length; i++) {
+            counts[i] = x.count(i - 1);
+            told.append(' ').append(counts[i]);
         }
-        for (int i = 0; i < x.count(8); i++) {
+        for (int i = 0; i < counts[9]; i++) {
             told.append(' ').append(x.error(i, 0)).append(' ').append(x.error(i, 1));
         }
-        for (int i = 0; i < x.count(1); i++) {
+        for (int i = 0; i < counts[2]; i += step(counts[2])) {
             told.append(' ').append(x.word(i));
         }
-        for (int i = 0; i < 4 * x.count(2); i++) {
+        for (int i = 0; i < 4 * counts[3]; i += step(4 * counts[3])) {
             told.append(' ').append(x.statement(i / 4, i % 4));
         }
-        for (int i = 0; i < x.count(3); i++) {
+        for (int i = 0; i < counts[4]; i++) {
             told.append(' ').append(x.name(i, 0));
         }
-        for (int i = 0; i < x.count(4); i++) {
+        for (int i = 0; i < counts[5]; i++) {
             told.append(' ').append(x.name(i, 1));
         }
         return told.toString();
+    }
+
+    /** Odd, so that all of a statement's answers are seen, and so wide that an object stays within its 512 calls. */
+    private static int step(int answers) {
+        return answers / 100 | 1;
     }
 }
